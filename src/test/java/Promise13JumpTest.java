@@ -30,6 +30,21 @@ final class Promise13JumpTest {
         x.coil(5, 10, 2, 1);
         Check.due("a coil behind the tables", x.jump(3, 2), 10000);
         Check.due("the size 0 in no row of thickness", x.jump(3, 0), -1);
+        oneKindForbids();
         Check.finish("Promise13JumpTest");
+    }
+
+    private static void oneKindForbids() {
+        WidthCampaigns x = new WidthCampaigns();
+        x.coil(5, 10, 0, 1);
+        x.coil(5, 50, 5, 1);
+        x.coil(5, 55, 9, 1);
+        x.table(0, 0, 5, 10);
+        x.table(1, 0, 10, 3);
+        Check.due("hardness allows it, thickness does not", x.jump(0, 1), -1);
+        Check.due("both allow it", x.jump(1, 2), 13);
+        Check.due("neither allows it", x.jump(0, 2), -1);
+        x.coil(5, 12, 9, 1);
+        Check.due("thickness allows it, hardness does not", x.jump(0, 3), -1);
     }
 }
