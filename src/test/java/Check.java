@@ -12,6 +12,10 @@ final class Check {
         void make();
     }
 
+    interface Question {
+        long ask();
+    }
+
     private Check() {
     }
 
@@ -40,6 +44,61 @@ final class Check {
             wrong++;
             System.out.println(what + " threw " + got + ", due is " + want);
         }
+    }
+
+    /** A call that is refused, and that leaves all that can be asked as it was. */
+    static void refusedAndKept(String what, Class<? extends RuntimeException> want, WidthCampaigns x, Call call) {
+        String before = allAnswers(x);
+        refused(what, want, call);
+        same(what + ", what stands behind it", allAnswers(x), before);
+    }
+
+    static void same(String what, String got, String want) {
+        asked++;
+        if (!got.equals(want)) {
+            wrong++;
+            System.out.println(what + " is\n  " + got + "\ndue is\n  " + want);
+        }
+    }
+
+    /** What every call that only asks answers now, refusals by their names. */
+    static String allAnswers(WidthCampaigns x) {
+        StringBuilder all = new StringBuilder("bound ").append(x.bound());
+        all.append(" proved ").append(answer(() -> x.proved() ? 1 : 0)).append(" told");
+        for (int what = -1; what <= 3; what++) {
+            int its = what;
+            all.append(' ').append(answer(() -> x.told(its)));
+        }
+        for (int number = -1; number <= 9; number++) {
+            int its = number;
+            all.append(" | ").append(answer(() -> x.order(its)));
+            all.append(' ').append(answer(() -> x.change(its) ? 1 : 0)).append(" jumps");
+            for (int other = -1; other <= 9; other++) {
+                int another = other;
+                all.append(' ').append(answer(() -> x.jump(its, another)));
+            }
+        }
+        return all.toString();
+    }
+
+    private static String answer(Question question) {
+        try {
+            return Long.toString(question.ask());
+        } catch (RuntimeException e) {
+            return e.getClass().getSimpleName();
+        }
+    }
+
+    /** That an order, a search or both were there and are gone: every call that needs one says so. */
+    static void allGone(String what, WidthCampaigns x) {
+        refused(what + ": order", TURN, () -> x.order(0));
+        refused(what + ": change", TURN, () -> x.change(0));
+        for (int each = 0; each <= 2; each++) {
+            int its = each;
+            refused(what + ": told", TURN, () -> x.told(its));
+        }
+        refused(what + ": improve", TURN, () -> x.improve(0));
+        refused(what + ": proved", TURN, () -> x.proved());
     }
 
     /** The order as one number in base ten, its first coil first; -1 without an order. */
@@ -92,6 +151,46 @@ final class Check {
         return x;
     }
 
+    /** As many coils, alike in all. */
+    static WidthCampaigns alike(int coils) {
+        WidthCampaigns x = new WidthCampaigns();
+        for (int i = 0; i < coils; i++) {
+            x.coil(5, 1, 0, 1);
+        }
+        return x;
+    }
+
+    /**
+     * Five coils on which every telling bears: jumps of both kinds, two groups, an urgent coil,
+     * old places, rise 3, wear 100, 70 cents a change, 9 a moved coil; searched through.
+     */
+    static WidthCampaigns busy() {
+        WidthCampaigns x = new WidthCampaigns();
+        x.coil(10, 5, 2, 40);
+        x.coil(20, 9, 4, 30);
+        x.coil(30, 7, 3, 50);
+        x.coil(25, 6, 1, 20);
+        x.coil(15, 8, 5, 35);
+        x.table(0, 0, 1, 3);
+        x.table(0, 2, 3, 8);
+        x.table(1, 0, 2, 1);
+        x.table(1, 3, 4, 6);
+        x.group(10, 20, 60);
+        x.group(21, 30, 65);
+        x.urgent(1, 2);
+        x.old(0, 0);
+        x.old(3, 4);
+        x.rules(3, 100, 70, 9);
+        x.run(100000);
+        return x;
+    }
+
+    /** That a search on it finds what the first one found, so nothing that was told has altered. */
+    static void runsAsBusy(String what, WidthCampaigns x) {
+        x.run(100000);
+        same(what + ", searched again", allAnswers(x), allAnswers(busy()));
+    }
+
     /** Coils of these hardnesses, alike in all else. */
     static WidthCampaigns ofHardnesses(int... hardnesses) {
         WidthCampaigns x = new WidthCampaigns();
@@ -99,17 +198,6 @@ final class Check {
             x.coil(5, 1, hard, 1);
         }
         return x;
-    }
-
-    /** That the order and the search are still there, or that both are gone. */
-    static void stillThere(String what, WidthCampaigns x, boolean want) {
-        if (want) {
-            due(what + ": told(0) still answers", x.told(0) >= 0, true);
-            due(what + ": proved still answers", x.proved(), true);
-        } else {
-            refused(what + ": the order is gone", TURN, () -> x.told(0));
-            refused(what + ": the search is gone", TURN, () -> x.proved());
-        }
     }
 
     static void finish(String name) {
